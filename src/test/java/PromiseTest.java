@@ -244,6 +244,7 @@ public final class PromiseTest {
     found(x, "missing", x.mean(0), NOTHING);
     x.row(0, 0);
     found(x, "of none", x.mean(0), NOUGHT);
+    told(x, "of one", rowOf(x, 0, 7).mean(0), 7);
     told(x, "cut", rowOf(x, 0, 1, 2, 2).mean(0), 1);
     told(x, "cut below 0", rowOf(x, 0, -1, -2, -2).mean(0), -1);
     told(x, "great ones", rowOf(x, 0, MAX, MAX, MAX).mean(0), MAX);
@@ -478,9 +479,10 @@ public final class PromiseTest {
     for (int k = 0; k < 3; k++) {
       y.soot(0);
     }
-    for (int k = 0; k < 37; k++) {
+    for (int k = 0; k < 36; k++) {
       y.quarter();
     }
+    due("the 40th deed", y.soot(1), 1);
     due("STATE ahead of FULL", y.soot(0), STATE);
     due("FULL", y.soot(1), FULL);
     due("BAD ahead of all", y.soot(2), BAD);
@@ -497,9 +499,11 @@ public final class PromiseTest {
     due("soot", ask(x, 0, 4), 0);
     due("deeds", x.count(2), 3);
     x.soot(1);
-    for (int k = 0; k < 36; k++) {
+    for (int k = 0; k < 34; k++) {
       x.quarter();
     }
+    x.soot(0);
+    due("the 40th deed", x.wash(0), 1);
     due("FULL", x.wash(1), FULL);
     due("STATE ahead of FULL", x.wash(0), STATE);
     due("still sooted", x.count(4), 2);
@@ -519,9 +523,10 @@ public final class PromiseTest {
     refusesAll("from", i -> x.gift(i, 1, 1), -1, 1, 2, MIN, MAX);
     refusesAll("to", j -> x.gift(0, j, 1), -1, 0, 2, MIN, MAX);
     refusesAll("how much", v -> x.gift(0, 1, v), 0, -1, 100, MIN, MAX);
-    for (int k = 0; k < 37; k++) {
+    for (int k = 0; k < 36; k++) {
       x.gift(0, 1, 1);
     }
+    due("the 40th deed", x.gift(0, 1, 1), 37);
     due("FULL", x.gift(0, 1, 1), FULL);
     due("STATE ahead of FULL", x.gift(0, 1, 99), STATE);
     due("BAD ahead of all", x.gift(0, 0, 99), BAD);
@@ -608,6 +613,19 @@ public final class PromiseTest {
     due("rows stay as they are", x.on(1), 2);
     due("rows", x.count(6), 1);
     found(x, "another place", x.on(0), NOTHING);
+    x.undo(0);
+    x.gift(1, 0, 9);
+    x.gift(1, 0, 9);
+    x.gift(1, 0, 9);
+    due("behind quite other deeds", x.on(1), 2);
+    due("behind quite other deeds", ask(x, 2, 4), 1);
+    x.keep(0);
+    x.tear(3);
+    x.house(0);
+    x.soot(2);
+    x.quarter();
+    x.keep(1);
+    due("by the same deeds", x.digest(), was);
   }
 
   private static void box() {
@@ -658,6 +676,8 @@ public final class PromiseTest {
     due("at once", z.settles(), 0);
     due("the box", z.asked(), 1);
     due("nothing done", y.count(3), 39);
+    y.later(0, 60);
+    due("from now on, whatever was asked ahead", y.settles(), 60);
   }
 
   private static void mill() {
@@ -680,6 +700,7 @@ public final class PromiseTest {
     due("just by then", slow.mill(60), 1);
     due("behind 60", slow.asked(), 60);
     due("not by then", slow.mill(61), NONE);
+    due("from now on, whatever was asked ahead", slow.mill(60), 1);
     due("asked stays", slow.asked(), 60);
     refusesAll("mill", x::mill, -1, 100, MIN, MAX);
   }
@@ -691,6 +712,10 @@ public final class PromiseTest {
     refusesAll("gains without kin", none::gains, 0, -1, 41, MIN, MAX);
     FiddleShares x = houseOf("k9000 k8000 k0000 k5099");
     due("who can gain", x.gains(1), 1 | 2);
+    FiddleShares step = houseOf("s2020 k3000");
+    due("each by oneself", step.gains(1), 1 | 2);
+    FiddleShares wanting = houseOf("k9000 k5700");
+    due("1 of soot is not enough for what one wants", wanting.gains(1), 0);
     FiddleShares y = houseOf("k9000 k3000");
     due("not the one at the top", y.gains(1), 2);
     due("nobody's purse is full", y.gains(16), 2);
@@ -732,6 +757,11 @@ public final class PromiseTest {
     due("either would do", rising.even(0, 1, 1, 0), 1);
     due("rising: the first one's counts most", place(rising, 0, 0), 0);
     due("rising", place(rising, 0, 1), 0);
+    FiddleShares both = houseOf("k9000 k9006");
+    both.soot(1);
+    due("of all", both.even(0, 1, 1, 0), 2);
+    due("the poorer one's", place(both, 0, 0), 3);
+    due("the richer one's", place(both, 0, 1), 0);
     FiddleShares never = rowOf(houseOf("k0099 k0000"), 1, 8);
     due("can not be", never.even(0, 1, 20, 1), NONE);
     due("row as it is", place(never, 1, 0), 8);
@@ -757,6 +787,9 @@ public final class PromiseTest {
     FiddleShares first = houseOf("k1000 j9000 k1000 k1000");
     due("the first", first.change(1), 1);
     due("how much", first.asked(), 7 + 8 + 8);
+    FiddleShares last = houseOf("k9000 k2000 j9000 k2000");
+    due("10 times the lesser number", last.change(1), 12);
+    due("how much", last.asked(), 0 + 0 + 5 + 7);
     FiddleShares alike = houseOf("k9000 k1000 k5000");
     due("alike is not less", alike.change(20), NONE);
     due("nothing done", x.count(2), 0);
@@ -850,6 +883,11 @@ public final class PromiseTest {
     w.soot(0);
     due("washed would cost", w.duel(0, 1, 1), 104);
     due("the other one can do nothing", w.duel(0, 1, 2), 104);
+    FiddleShares v = houseOf("j5000 s9000");
+    v.soot(0);
+    v.soot(1);
+    due("washed", v.duel(1, 0, 0), 100 - 4);
+    due("more soot is best", v.duel(0, 1, 1), 100 + 4 * 5);
     refusesAll("duel", i -> x.duel(i, 1, 0), -1, 1, 3, MIN, MAX);
     refusesAll("with", j -> x.duel(0, j, 0), -1, 0, 3, MIN, MAX);
     refusesAll("turns", n -> x.duel(0, 1, n), -1, 7, MIN, MAX);
