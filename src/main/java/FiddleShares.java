@@ -972,23 +972,18 @@ public final class FiddleShares {
         }
 
         static int regardOf(int kind, int look, int soot, int purse) {
-            int plain = Math.max(0, look - 2 * soot);
+            int plain = look > 2 * soot ? look - 2 * soot : 0;
+            int asSister = purse >= 20 ? plain + 2 : plain;
+            int asPatched = purse < 10 && plain > 0 ? plain - 1 : plain;
             switch (kind) {
-                case SISTER: return regardOfSister(plain, purse);
-                case MILLER: return plain + Math.min(9, purse / 10);
-                case PATCHED: return regardOfPatched(plain, purse);
-                case JULIA: return 2 * regardOfSister(plain, purse);
-                case UNLISTED: return regardOfPatched(plain, purse) / 2;
+                case SISTER: return asSister;
+                // a PURSE is 99 at most, so this is 9 at most more
+                case MILLER: return plain + purse / 10;
+                case PATCHED: return asPatched;
+                case JULIA: return 2 * asSister;
+                case UNLISTED: return asPatched / 2;
                 default: return plain;
             }
-        }
-
-        static int regardOfSister(int plain, int purse) {
-            return purse >= 20 ? plain + 2 : plain;
-        }
-
-        static int regardOfPatched(int plain, int purse) {
-            return purse < 10 ? Math.max(0, plain - 1) : plain;
         }
 
         int regardAs(int i, int asKind) {
@@ -999,7 +994,7 @@ public final class FiddleShares {
         void weigh() {
             foremost = 0;
             for (int i = 0; i < size; i++) {
-                regarded[i] = regardAs(i, kind[i]);
+                regarded[i] = regardOf(kind[i], look[i], sooted[i], purse[i]);
                 if (regarded[i] > regarded[foremost]) {
                     foremost = i;
                 }

@@ -323,6 +323,14 @@ public final class PromiseTest {
     FiddleShares x = new FiddleShares();
     found(x, "missing", x.fault(0), NOTHING);
     write(x, 0, "k0000s9999");
+    write(x, 0, "k0000s999");
+    due("shorter than it was", x.fault(0), 9);
+    write(x, 0, " ".repeat(55) + "k000");
+    due("end of a long one", x.fault(0), 59);
+    x.text(0, 60);
+    x.put(0, 59, 'k');
+    due("end of the longest", x.fault(0), 60);
+    write(x, 0, "k0000s9999");
     x.put(0, 5, 's' + 128);
     due("letter below 0", x.fault(0), 5);
     x.put(0, 5, 's' + 256);
@@ -888,6 +896,15 @@ public final class PromiseTest {
     v.soot(1);
     due("washed", v.duel(1, 0, 0), 100 - 4);
     due("more soot is best", v.duel(0, 1, 1), 100 + 4 * 5);
+    FiddleShares u = houseOf("u3017 s2019");
+    for (int k = 0; k < 3; k++) {
+      u.soot(0);
+      u.soot(1);
+    }
+    due("nobody is paid", u.duel(0, 1, 0), 98);
+    // washed, the first is regarded 1: the sister is paid 1, has 20, is regarded 2, and pays it back thrice
+    due("it is best to be washed", u.duel(0, 1, 1), 100);
+    due("the second one is washed, too", u.duel(1, 0, 2), 100);
     refusesAll("duel", i -> x.duel(i, 1, 0), -1, 1, 3, MIN, MAX);
     refusesAll("with", j -> x.duel(0, j, 0), -1, 0, 3, MIN, MAX);
     refusesAll("turns", n -> x.duel(0, 1, n), -1, 7, MIN, MAX);
