@@ -701,6 +701,35 @@ public final class EdgeTest {
     }
   }
 
+  @Of(promise = 0, says = "rows of 0 to 40 ints")
+  private static void everyCallOnAnEmptyRow() {
+    FiddleShares x = houseOf("k5000 k3000");
+    due("row", x.row(0, 0), 0);
+    found(x, "lay", y -> y.lay(0, 0, 1), BEYOND);
+    found(x, "at", y -> y.at(0, 0), BEYOND);
+    due("copy of none", x.copy(0, 0, 0, 0, 0), 1);
+    found(x, "copy of one", y -> y.copy(0, 0, 0, 0, 1), BEYOND);
+    found(x, "copy of none from behind it", y -> y.copy(0, 1, 0, 0, 0), BEYOND);
+    found(x, "mean", y -> y.mean(0), NOUGHT);
+    due("looks", x.looks(0, 0), 1023);
+    due("kinds", x.kinds(0, 0), 63);
+    both(x, "test", x.test(0, 0), 20, 2);
+    due("rows", x.count(6), 1);
+    due("tear", x.tear(0), 1);
+    due("rows", x.count(6), 0);
+  }
+
+  @Of(promise = 0, says = "rows of 0 to 60 bytes")
+  private static void everyCallOnAnEmptyText() {
+    FiddleShares x = houseOf("k5000 k3000");
+    due("text", x.text(0, 0), 0);
+    found(x, "put", y -> y.put(0, 0, 1), BEYOND);
+    due("fault: its size", x.fault(0), 0);
+    due("house", x.house(0), STATE);
+    due("the house stays", x.count(0), 2);
+    due("texts", x.count(7), 1);
+  }
+
   // ---- Terms: how one is regarded
 
   @Of(promise = 0, says = "less 2 for each of SOOT (0 at least)")
@@ -890,6 +919,32 @@ public final class EdgeTest {
     due("40", x.count(2), 40);
     x.undo(39);
     due("room again", x.quarter() >= 0 ? 1 : 0, 1);
+  }
+
+  @Of(promise = 0, says = "These are DEEDS (40 at most)")
+  private static void everyCallWith40Deeds() {
+    FiddleShares x = forty();
+    due("quarter", x.quarter(), FULL);
+    due("soot", x.soot(2), FULL);
+    due("wash", x.wash(0), FULL);
+    due("gift", x.gift(1, 2, 1), FULL);
+    due("lots", x.lots(1, 1), FULL);
+    due("keep", x.keep(0), 40);
+    due("on", x.on(0), 40);
+    due("undo", x.undo(40), 0);
+    both(x, "box", x.box(), 0, 0);
+    both(x, "later", x.later(1, 60), 99, 0);
+    both(x, "settles", x.settles(), 0, 0);
+    both(x, "mill", x.mill(99), 1, 0);
+    due("gains", x.gains(40), 0);
+    due("even", x.even(0, 2, 20, 0), 0);
+    due("change", x.change(20), NONE);
+    due("duel", x.duel(1, 0, 6), 199);
+    chance(x, "odds", x.odds(0, 0, 6), 1, 1);
+    chance(x, "mid", x.mid(6), 0, 1);
+    due("a house anew", x.house(0), 3);
+    due("no deeds", x.count(2), 0);
+    due("room for one", x.quarter(), 0);
   }
 
   @Of(promise = 0, says = "3 quarters to come (aside: nothing else done; beyond QUARTER 99, too)")
@@ -1812,6 +1867,12 @@ public final class EdgeTest {
     FiddleShares one = houseOf("k9000 k9018");
     due("of one, 3 more", one.even(0, 1, 3, 0), 1);
     rowIs(one, "3 more", 0, 3, 0);
+    FiddleShares first = houseOf("k9000 k9018 k9000 k9000 k9000 k9000");
+    due("of the first of six", first.even(0, 1, 3, 0), 1);
+    rowIs(first, "of the first of six", 0, 3, 0, 0, 0, 0, 0);
+    FiddleShares last = houseOf("k9000 k9000 k9000 k9000 k9018 k9000");
+    due("of the last of six", last.even(5, 4, 3, 0), 1);
+    rowIs(last, "of the last of six", 0, 0, 0, 0, 0, 0, 3);
     FiddleShares both = soot(houseOf("k9000 k9006"), 1, 1);
     due("of both", both.even(0, 1, 1, 0), 2);
     rowIs(both, "of both", 0, 3, 0);
