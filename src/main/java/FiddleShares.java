@@ -1012,7 +1012,9 @@ public final class FiddleShares {
             boolean changes = false;
             for (int i = 0; i < size; i++) {
                 int then = Math.max(0, Math.min(MOST_PURSE, purse[i] + paid[i] - wants[i]));
-                changes |= then != purse[i];
+                if (then != purse[i]) {
+                    changes = true;
+                }
                 purse[i] = then;
             }
             return changes;

@@ -21,6 +21,7 @@ import java.util.regex.Pattern;
 /** The class has the document's face and no other, keeps to the rules of LANGUAGE.md, and makes little. */
 public final class FormTest {
   private static final String SOURCE = "src/main/java/FiddleShares.java";
+  private static final String DOCUMENT = "../shared/DOC.md";
   private static final String FACE =
       "int row(int,int); int lay(int,int,int); int at(int,int); int tear(int); int copy(int,int,int,int,int);"
       + " int mean(int); int text(int,int); int put(int,int,int); int fault(int); int house(int); int one(int,int);"
@@ -35,6 +36,7 @@ public final class FormTest {
 
   public static void main(String[] args) throws Exception {
     face();
+    faceAsInTheDocument();
     constants();
     members();
     words();
@@ -68,6 +70,25 @@ public final class FormTest {
     hold(got.equals(want), "the public methods are those of the document: " + got);
     Constructor<?>[] made = c.getConstructors();
     hold(made.length == 1 && made[0].getParameterCount() == 0, "one public constructor without parameters");
+  }
+
+  /** Each line of the document's face stands in the source as it stands there, the parameters' names too. */
+  private static void faceAsInTheDocument() throws IOException {
+    String document = Files.readString(Path.of(DOCUMENT));
+    int from = document.indexOf("```java\n");
+    int to = document.indexOf("```", from + 3);
+    hold(from >= 0 && to > from, "the document shows the face");
+    String source = Files.readString(Path.of(SOURCE));
+    int members = 0;
+    for (String line : document.substring(Math.max(0, from), Math.max(0, to)).split("\n")) {
+      String member = line.strip();
+      if (member.startsWith("public ")) {
+        members++;
+        String wanted = member.endsWith(");") ? member.substring(0, member.length() - 1) + " {" : member;
+        hold(source.contains("\n" + line.substring(0, line.indexOf(member)) + wanted + "\n"), "the face has " + member);
+      }
+    }
+    hold(members == 1 + 1 + 1 + FACE.split("; *").length, "the document's face has as many members as this test");
   }
 
   private static String signature(Method m) {
@@ -131,6 +152,8 @@ public final class FormTest {
     String code = code();
     String[] never = {"\\bthrow\\b", "\\bthrows\\b", "\\btry\\b", "\\bcatch\\b", "\\bsynchronized\\b", "\\bassert\\b",
         "->", "::", "Exact\\s*\\(", "\\bpackage\\b", "\\bSystem\\.(?!arraycopy)", "\\bArrays\\.(?!fill|copyOf)",
+        // booleans are joined by && and ||, which rule 10 lists
+        "[|&^]=[^;]*([!=<>]=|!)",
         "\\bstatic\\s*\\{", "\\bprotected\\b", "\\bRandom\\b", "\\bThread\\b", "\\bvar\\b", "\\bString\\b", "\\bObject\\b"};
     for (String word : never) {
       Matcher m = Pattern.compile(word).matcher(code);
